@@ -1,3 +1,4 @@
+import java.lang.reflect.Method;
 import java.util.Arrays;
 import java.util.Random;
 
@@ -71,7 +72,7 @@ public final class ModelTest {
             case "split": return new int[] {rule(), pick(0, 3)};
             case "prefix": return new int[] {rule(), pick(0, 3), pick(0, 9), pick(0, 1)};
             case "tuple": return new int[] {pick(0, random.nextBoolean() ? 10 : 1028), pick(0, 6)};
-            case "first": return packet(0);
+            case "first": return Arrays.copyOf(packet(0), 4);
             case "probe": return packet(pick(0, 2));
             case "walk": return packet(random.nextBoolean() ? pick(0, 2) : pick(10, 13));
             case "grow": return random.nextBoolean() ? new int[] {0, pick(1, 4)} : new int[] {pick(0, 1), pick(1, 8)};
@@ -97,65 +98,23 @@ public final class ModelTest {
         return dear && surveying < 2 ? "first" : call;
     }
 
-    private static int bySorter(FieldSorter x, String call, int[] a) {
-        switch (call) {
-            case "draft": return x.draft(a[0], a[1], a[2]);
-            case "rule": return x.rule(a[0], a[1]);
-            case "drop": return x.drop(a[0]);
-            case "rank": return x.rank(a[0], a[1]);
-            case "told": return x.told(a[0], a[1]);
-            case "first": return x.first(a[0], a[1], a[2], a[3]);
-            case "wins": return x.wins(a[0]);
-            case "overlap": return x.overlap(a[0], a[1]);
-            case "covered": return x.covered(a[0]);
-            case "idle": return x.idle(a[0]);
-            case "packets": return x.packets(a[0]);
-            case "split": return x.split(a[0], a[1]);
-            case "prefix": return x.prefix(a[0], a[1], a[2], a[3]);
-            case "tuple": return x.tuple(a[0], a[1]);
-            case "probe": return x.probe(a[0], a[1], a[2], a[3], a[4]);
-            case "grow": return x.grow(a[0], a[1]);
-            case "tree": return x.tree(a[0]);
-            case "walk": return x.walk(a[0], a[1], a[2], a[3], a[4]);
-            case "image": return x.image(a[0]);
-            case "restore": return x.restore(a[0]);
-            default: return x.count(a[0]);
+    /** Both classes have methods of the same names, which take nothing but ints. */
+    private static int answer(Object object, String call, int[] a) throws ReflectiveOperationException {
+        for (Method m : object.getClass().getDeclaredMethods()) {
+            if (m.getName().equals(call) && m.getParameterCount() == a.length) {
+                return (int) m.invoke(object, Arrays.stream(a).boxed().toArray());
+            }
         }
-    }
-
-    private static int byModel(PlainModel x, String call, int[] a) {
-        switch (call) {
-            case "draft": return x.draft(a[0], a[1], a[2]);
-            case "rule": return x.rule(a[0], a[1]);
-            case "drop": return x.drop(a[0]);
-            case "rank": return x.rank(a[0], a[1]);
-            case "told": return x.told(a[0], a[1]);
-            case "first": return x.first(a[0], a[1], a[2], a[3]);
-            case "wins": return x.wins(a[0]);
-            case "overlap": return x.overlap(a[0], a[1]);
-            case "covered": return x.covered(a[0]);
-            case "idle": return x.idle(a[0]);
-            case "packets": return x.packets(a[0]);
-            case "split": return x.split(a[0], a[1]);
-            case "prefix": return x.prefix(a[0], a[1], a[2], a[3]);
-            case "tuple": return x.tuple(a[0], a[1]);
-            case "probe": return x.probe(a[0], a[1], a[2], a[3], a[4]);
-            case "grow": return x.grow(a[0], a[1]);
-            case "tree": return x.tree(a[0]);
-            case "walk": return x.walk(a[0], a[1], a[2], a[3], a[4]);
-            case "image": return x.image(a[0]);
-            case "restore": return x.restore(a[0]);
-            default: return x.count(a[0]);
-        }
+        throw new IllegalArgumentException("no " + call + " of " + a.length);
     }
 
     /** The first call of a run that differs, or null. */
-    private String run() {
+    private String run() throws ReflectiveOperationException {
         for (int i = 0; i < CALLS_A_RUN; i++) {
             String call = i < 60 && i % 3 == 2 ? "rule" : i < 60 ? "draft" : name();
             int[] a = arguments(call);
-            int got = bySorter(sorter, call, a);
-            int want = byModel(model, call, a);
+            int got = answer(sorter, call, a);
+            int want = answer(model, call, a);
             if (got != want) {
                 return "call " + i + ": " + call + Arrays.toString(a) + " answered " + got + ", due is " + want;
             }
@@ -163,7 +122,7 @@ public final class ModelTest {
         return null;
     }
 
-    public static void main(String[] args) {
+    public static void main(String[] args) throws ReflectiveOperationException {
         int runs = args.length > 0 ? Integer.parseInt(args[0]) : 160;
         int wrongRuns = 0;
         for (int seed = 0; seed < runs; seed++) {

@@ -564,6 +564,7 @@ public final class PromiseTest {
         due("below 40: rules", x.walk(10, 0, 0, 0, 1), 2);
         due("below 40: cuts of field 0", x.walk(10, 0, 0, 0, 10), 0);
         due("below 40: cuts of field 3", x.walk(10, 0, 0, 0, 13), 2);
+        due("the greatest half is cut, too", x.walk(10, 0, 0, 3, 13), 2);
         due("at 40: deep", x.walk(40, 0, 0, 0, 0), 2);
         due("at 40: rules", x.walk(40, 0, 0, 0, 1), 2);
         due("at 40, rule 4 is ahead", x.walk(40, 0, 0, 0, 2), 1);
@@ -669,10 +670,11 @@ public final class PromiseTest {
         add(x, 6, 0, 16, 19, 0, 63, 1, 1, 2, 2);
         add(x, 8, 0, 16, 19, 0, 63, 1, 1, 2, 2);
         add(x, 8, 0, 4, 4, 0, 63, 63, 63, 1, 1);
+        add(x, 9, 5, 60, 60);
         x.grow(0, 4);
         x.grow(1, 3);
         x.image(1);
-        int[] wants = {4, 4, 8 + 1 + 1 + 1, 4, 3, 3, 2, 2};
+        int[] wants = {5, 5, 8 + 1 + 1 + 1 + 1, 4, 3, 3, 2, 2};
         for (int what = 0; what < wants.length; what++) {
             due("count(" + what + ")", x.count(what), wants[what]);
         }
