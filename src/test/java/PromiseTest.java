@@ -1,29 +1,7 @@
 /** Each promise of the document by itself: ordinary calls, the edges it names, wrong arguments. */
-public final class PromiseTest {
-    private static final int UNKNOWN = -1, OUTSIDE = -2, STATE = -3, FULL = -4, NONE = -6;
-    private static final int[] WILD = {-1, Integer.MIN_VALUE, Integer.MAX_VALUE, 1 << 20, -1000};
-    private static final int ALL = 1 << 20;
-
-    private static String promise = "";
-    private static int wrong = 0;
-
-    private static void due(String call, int got, int want) {
-        if (got != want) {
-            wrong++;
-            System.out.println(promise + ": " + call + " answered " + got + ", due is " + want);
-        }
-    }
-
-    /** A RULE more, with RANGES given as pairs for the FIELDS from 0 on. */
-    private static int add(FieldSorter x, int rank, int action, int... ranges) {
-        for (int f = 0; 2 * f < ranges.length; f++) {
-            x.draft(f, ranges[2 * f], ranges[2 * f + 1]);
-        }
-        return x.rule(rank, action);
-    }
-
+public final class PromiseTest extends Check {
     private static void constants() {
-        promise = "constants";
+        sentence("constants");
         due("UNKNOWN", FieldSorter.UNKNOWN, -1);
         due("OUTSIDE", FieldSorter.OUTSIDE, -2);
         due("STATE", FieldSorter.STATE, -3);
@@ -33,7 +11,7 @@ public final class PromiseTest {
     }
 
     private static void newObject() {
-        promise = "1 new object";
+        sentence("1 new object");
         FieldSorter x = new FieldSorter();
         int[] counts = {0, 0, 0, 2, 6, 0, 0, 0};
         for (int what = 0; what < counts.length; what++) {
@@ -53,7 +31,7 @@ public final class PromiseTest {
     }
 
     private static void draft() {
-        promise = "2 draft";
+        sentence("2 draft");
         FieldSorter x = new FieldSorter();
         due("one number", x.draft(1, 7, 7), 1);
         due("all numbers", x.draft(2, 0, 63), 64);
@@ -79,7 +57,7 @@ public final class PromiseTest {
     }
 
     private static void rule() {
-        promise = "3 rule";
+        sentence("3 rule");
         FieldSorter x = new FieldSorter();
         x.draft(0, 4, 9);
         for (int w : WILD) {
@@ -106,7 +84,7 @@ public final class PromiseTest {
     }
 
     private static void drop() {
-        promise = "4 drop";
+        sentence("4 drop");
         FieldSorter x = new FieldSorter();
         due("of none", x.drop(0), UNKNOWN);
         for (int r = 0; r < 4; r++) {
@@ -133,7 +111,7 @@ public final class PromiseTest {
     }
 
     private static void rank() {
-        promise = "5 rank";
+        sentence("5 rank");
         FieldSorter x = new FieldSorter();
         due("of none", x.rank(0, 0), UNKNOWN);
         add(x, 5, 0);
@@ -156,7 +134,7 @@ public final class PromiseTest {
     }
 
     private static void told() {
-        promise = "6 told";
+        sentence("6 told");
         FieldSorter x = new FieldSorter();
         due("of none", x.told(0, 0), UNKNOWN);
         add(x, 30, 4, 1, 2, 3, 4, 5, 6, 2, 3);
@@ -178,7 +156,7 @@ public final class PromiseTest {
     }
 
     private static void first() {
-        promise = "7 first";
+        sentence("7 first");
         FieldSorter x = new FieldSorter();
         add(x, 9, 0, 10, 20, 10, 20, 10, 20, 1, 2);
         add(x, 9, 1, 15, 25);
@@ -206,7 +184,7 @@ public final class PromiseTest {
     }
 
     private static void wins() {
-        promise = "8 wins";
+        sentence("8 wins");
         FieldSorter x = new FieldSorter();
         due("of none", x.wins(0), UNKNOWN);
         add(x, 2, 0, 0, 9, 0, 9, 0, 9, 0, 1);
@@ -229,7 +207,7 @@ public final class PromiseTest {
     }
 
     private static void overlap() {
-        promise = "9 overlap";
+        sentence("9 overlap");
         FieldSorter x = new FieldSorter();
         due("of none", x.overlap(0, 0), UNKNOWN);
         add(x, 2, 0, 0, 9, 0, 9, 0, 9, 0, 1);
@@ -251,7 +229,7 @@ public final class PromiseTest {
     }
 
     private static void covered() {
-        promise = "10 covered";
+        sentence("10 covered");
         FieldSorter x = new FieldSorter();
         due("of none", x.covered(0), UNKNOWN);
         add(x, 5, 0, 10, 20, 10, 20, 10, 20, 1, 2);
@@ -290,7 +268,7 @@ public final class PromiseTest {
     }
 
     private static void idle() {
-        promise = "11 idle";
+        sentence("11 idle");
         FieldSorter x = new FieldSorter();
         due("of none", x.idle(0), UNKNOWN);
         add(x, 1, 3, 0, 9);
@@ -315,7 +293,7 @@ public final class PromiseTest {
     }
 
     private static void packets() {
-        promise = "12 packets";
+        sentence("12 packets");
         FieldSorter x = new FieldSorter();
         add(x, 1, 0, 0, 0);
         add(x, 1, 9, 0, 1);
@@ -331,7 +309,7 @@ public final class PromiseTest {
     }
 
     private static void split() {
-        promise = "13 split";
+        sentence("13 split");
         FieldSorter x = new FieldSorter();
         due("of none", x.split(0, 0), UNKNOWN);
         add(x, 0, 0, 1, 62, 0, 63, 63, 63, 1, 2);
@@ -351,7 +329,7 @@ public final class PromiseTest {
     }
 
     private static void prefix() {
-        promise = "14 prefix";
+        sentence("14 prefix");
         FieldSorter x = new FieldSorter();
         due("of none", x.prefix(0, 0, 0, 0), UNKNOWN);
         add(x, 0, 0, 3, 12, 0, 63, 63, 63, 1, 3);
@@ -377,7 +355,7 @@ public final class PromiseTest {
     }
 
     private static void tuple() {
-        promise = "15 tuple";
+        sentence("15 tuple");
         FieldSorter x = new FieldSorter();
         due("of none", x.tuple(0, 0), NONE);
         due("what before i", x.tuple(0, 7), OUTSIDE);
@@ -404,7 +382,7 @@ public final class PromiseTest {
     }
 
     private static void mostTuples() {
-        promise = "15 most tuples";
+        sentence("15 most tuples");
         FieldSorter x = new FieldSorter();
         for (int r = 0; r < 16; r++) {
             int[] ranges = new int[8];
@@ -421,7 +399,7 @@ public final class PromiseTest {
     }
 
     private static void probe() {
-        promise = "16 probe";
+        sentence("16 probe");
         FieldSorter x = new FieldSorter();
         due("of none", x.probe(0, 0, 0, 0, 0), NONE);
         due("none probed", x.probe(0, 0, 0, 0, 1), 0);
@@ -458,7 +436,7 @@ public final class PromiseTest {
     }
 
     private static void grow() {
-        promise = "17 grow";
+        sentence("17 grow");
         FieldSorter x = new FieldSorter();
         due("bin", x.grow(0, 4), 2);
         due("bin again", x.grow(0, 1), 4);
@@ -478,14 +456,8 @@ public final class PromiseTest {
         due("deep stays", x.count(4), 1);
     }
 
-    private static void dueTree(FieldSorter x, String when, int... wants) {
-        for (int what = 0; what < wants.length; what++) {
-            due(when + ": tree(" + what + ")", x.tree(what), wants[what]);
-        }
-    }
-
     private static void tree() {
-        promise = "18 tree";
+        sentence("18 tree");
         FieldSorter x = new FieldSorter();
         dueTree(x, "no rule: the only tree with an empty leaf", 1, 1, 0, 0, 0, 1);
         for (int r = 0; r < 3; r++) {
@@ -518,7 +490,7 @@ public final class PromiseTest {
     }
 
     private static void fieldCut() {
-        promise = "18 which field is cut";
+        sentence("18 which field is cut");
         FieldSorter y = new FieldSorter();
         // FIELDS 0 and 1 both leave two and one: the least FIELD is cut.
         add(y, 0, 0, 0, 31, 0, 31);
@@ -548,7 +520,7 @@ public final class PromiseTest {
     }
 
     private static void walk() {
-        promise = "19 walk";
+        sentence("19 walk");
         FieldSorter x = new FieldSorter();
         int[] whats = {0, 1, 2, 10, 11, 12, 13};
         for (int what : whats) {
@@ -606,7 +578,7 @@ public final class PromiseTest {
     }
 
     private static void images() {
-        promise = "20, 21 image, restore";
+        sentence("20, 21 image, restore");
         FieldSorter x = new FieldSorter();
         add(x, 7, 3, 1, 2, 3, 4);
         add(x, 6, 4);
@@ -664,7 +636,7 @@ public final class PromiseTest {
     }
 
     private static void count() {
-        promise = "22 count";
+        sentence("22 count");
         FieldSorter x = new FieldSorter();
         add(x, 7, 0, 3, 12, 0, 63, 63, 63, 1, 3);
         add(x, 6, 0, 16, 19, 0, 63, 1, 1, 2, 2);
@@ -709,9 +681,6 @@ public final class PromiseTest {
         walk();
         images();
         count();
-        System.out.println(wrong == 0 ? "all promises hold" : wrong + " answers are not as due");
-        if (wrong != 0) {
-            System.exit(1);
-        }
+        end();
     }
 }
