@@ -14,13 +14,16 @@ import java.util.regex.Pattern;
 
 /** The document's public face and no more, and those rules of LANGUAGE.md that can be read off the class or its text. */
 public final class FaceTest {
-    private static final String[] METHODS = {"draft 3", "rule 2", "drop 1", "rank 2", "told 2", "first 4", "wins 1",
-        "overlap 2", "covered 1", "idle 1", "packets 1", "split 2", "prefix 4", "tuple 2", "probe 5", "grow 2",
-        "tree 1", "walk 5", "image 1", "restore 1", "count 1"};
-    private static final String[] CONSTANTS = {"UNKNOWN", "OUTSIDE", "STATE", "FULL", "NO", "NONE"};
+    private static final Path DOCUMENT = Path.of("../shared/DOC.md");
     private static final String[] FORBIDDEN = {"throw", "throws", "try", "catch", "synchronized", "assert", "package",
         "Object", "equals", "hashCode", "toString", "Exception", "protected", "Random", "System\\.(?!arraycopy)",
         "\\w+Exact", "->", "::"};
+    /** What is called of the library; all of it stands in LANGUAGE.md. */
+    private static final List<String> LIBRARY = List.of("Arrays.fill", "Integer.bitCount", "Math.max", "Math.min");
+
+    /** As the document's face has them: a method's name with how many ints it takes, a constant's with its number. */
+    private static final TreeSet<String> METHODS = new TreeSet<>();
+    private static final TreeSet<String> CONSTANTS = new TreeSet<>();
 
     private static int wrong = 0;
 
@@ -29,7 +32,24 @@ public final class FaceTest {
         System.out.println(text);
     }
 
-    private static void checkMembers() {
+    private static void readFace() throws IOException {
+        String text = Files.readString(DOCUMENT);
+        int start = text.indexOf("```java");
+        String face = text.substring(start, text.indexOf("\n```", start));
+        Matcher method = Pattern.compile("public int (\\w+)\\(([^)]*)\\);").matcher(face);
+        while (method.find()) {
+            METHODS.add(method.group(1) + " " + method.group(2).split(",").length);
+        }
+        Matcher constant = Pattern.compile("([A-Z]+) = (-\\d+)").matcher(face);
+        while (constant.find()) {
+            CONSTANTS.add(constant.group(1) + " " + constant.group(2));
+        }
+        if (METHODS.size() != 21 || CONSTANTS.size() != 6) {
+            fault("the document's face was read as " + METHODS + ", " + CONSTANTS);
+        }
+    }
+
+    private static void checkMembers() throws ReflectiveOperationException {
         if (!Modifier.isPublic(FieldSorter.class.getModifiers()) || !Modifier.isFinal(FieldSorter.class.getModifiers())) {
             fault("the class is not public and final");
         }
@@ -44,16 +64,19 @@ public final class FaceTest {
             }
             methods.add(m.getName() + " " + m.getParameterCount() + (plain ? "" : " not as told"));
         }
-        if (!methods.equals(new TreeSet<>(Arrays.asList(METHODS)))) {
+        if (!methods.equals(METHODS)) {
             fault("the methods are " + methods);
         }
         TreeSet<String> constants = new TreeSet<>();
         for (Field f : FieldSorter.class.getDeclaredFields()) {
-            if (!Modifier.isPrivate(f.getModifiers())) {
-                constants.add(f.getName());
+            if (Modifier.isPrivate(f.getModifiers())) {
+                continue;
             }
+            boolean plain = f.getType() == int.class
+                && f.getModifiers() == (Modifier.PUBLIC | Modifier.STATIC | Modifier.FINAL);
+            constants.add(f.getName() + " " + (plain ? f.getInt(null) : "not as told"));
         }
-        if (!constants.equals(new TreeSet<>(Arrays.asList(CONSTANTS)))) {
+        if (!constants.equals(CONSTANTS)) {
             fault("the constants are " + constants);
         }
         Constructor<?>[] made = FieldSorter.class.getDeclaredConstructors();
@@ -113,6 +136,12 @@ public final class FaceTest {
                 fault("the text has '" + m.group() + "'");
             }
         }
+        Matcher call = Pattern.compile("\\b([A-Z]\\w*\\.\\w+)\\(").matcher(code);
+        while (call.find()) {
+            if (!LIBRARY.contains(call.group(1))) {
+                fault("the text calls " + call.group(1));
+            }
+        }
         for (String line : code.split("\n")) {
             if (line.startsWith("import ") && !line.equals("import java.util.Arrays;")) {
                 fault("the text has " + line);
@@ -120,7 +149,8 @@ public final class FaceTest {
         }
     }
 
-    public static void main(String[] args) throws IOException {
+    public static void main(String[] args) throws IOException, ReflectiveOperationException {
+        readFace();
         checkMembers();
         checkClasses();
         checkText();
